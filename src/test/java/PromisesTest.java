@@ -126,6 +126,11 @@ public final class PromisesTest {
         due("row(17, MIN)", x.row(17, MIN), SIZE);
         findings("rows of a size below 0", x, 0, 0, 0, 0, 2);
         due("count(0)", x.count(0), n);
+        for (; n < 110; n++) {
+            due("row(8, 10)", x.row(8, 10), n);
+        }
+        due("the last THING's last place", x.write(109, 8, 9, 1), 1);
+        due("row(8, 10) after 110", x.row(8, 10), FULL);
         LoanCases y = full();
         due("full: row(5, 1)", y.row(5, 1), FULL);
         due("full: row(5, -1)", y.row(5, -1), FULL);
@@ -800,6 +805,23 @@ public final class PromisesTest {
         due("van(-1, -1)", x.van(-1, -1), UNKNOWN);
         x.back(0);
         due("van(0, 0), HOME", x.van(0, 0), NONE);
+        vanOfEight();
+    }
+
+    private static void vanOfEight() {
+        LoanCases x = new LoanCases();
+        x.loan();
+        for (int n = 0; n < 8; n++) {
+            int box = x.makeCase();
+            x.fill(box, x.thing(0, n));
+            x.want(0, box, 0);
+        }
+        due("leave(0), 8 WANTS", x.leave(0), 1);
+        for (int n = 0; n < 8; n++) {
+            due("van(0, " + n + ") of 8", x.van(0, n), 2 * n + 1);
+        }
+        due("told(0, 2) of 8", x.told(0, 2), 8);
+        due("back(0) of 8", x.back(0), 8);
     }
 
     private static void promise26Count() {
