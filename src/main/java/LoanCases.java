@@ -15,7 +15,7 @@ public final class LoanCases {
     private static final int MOST_THINGS = 110, MOST_PLACES = 10, MOST_LOANS = 8, MOST_WANTS = 8;
     private static final int LAST_YEAR = 3000;
 
-    /** The only objects that calls make: four for each LOAN begun, so some 2,000 in an object's 512 calls. */
+    /** Beside read's exceptions the only objects that calls make: four a LOAN, some 2,000 in an object's 512 calls. */
     private static final class Loan {
         private int state = OPEN;
         private int wants = 0;

@@ -18,7 +18,10 @@ public final class FaceTest {
         "int van(int,int)", "int count(int)", "int clear()",
     };
 
-    public static void main(String[] args) {
+    private static final Set<String> OF_READ =
+            Set.of("java.lang.ClassCastException", "java.lang.ArrayIndexOutOfBoundsException");
+
+    public static void main(String[] args) throws NoSuchFieldException {
         Check c = new Check("FaceTest");
         c.due("UNKNOWN", LoanCases.UNKNOWN, -1);
         c.due("OUTSIDE", LoanCases.OUTSIDE, -2);
@@ -33,6 +36,7 @@ public final class FaceTest {
                 shown.add(signature(m));
                 publicNames.add(m.getName());
                 c.due(m.getName() + " is public and not static", m.getModifiers(), Modifier.PUBLIC);
+                same(c, m.getName() + " throws", thrown(m), m.getName().equals("read") ? OF_READ : Set.of());
             }
         }
         same(c, "methods", shown, new TreeSet<>(Arrays.asList(METHODS)));
@@ -50,6 +54,16 @@ public final class FaceTest {
         }
         same(c, "fields", fields, new TreeSet<>(Arrays.asList("UNKNOWN", "OUTSIDE", "TURN", "FULL", "NONE")));
 
+        for (String name : fields) {
+            int constant = Modifier.PUBLIC | Modifier.STATIC | Modifier.FINAL;
+            c.due(name + " is a public constant", LoanCases.class.getDeclaredField(name).getModifiers(), constant);
+        }
+        for (Class<?> inner : LoanCases.class.getDeclaredClasses()) {
+            int modifiers = inner.getModifiers();
+            c.due(inner + " is static", Modifier.isStatic(modifiers) ? 1 : 0, 1);
+            c.due(inner + " is shown", modifiers & (Modifier.PUBLIC | Modifier.PROTECTED), 0);
+        }
+
         Constructor<?>[] constructors = LoanCases.class.getDeclaredConstructors();
         c.due("constructors", constructors.length, 1);
         c.due("the constructor's parameters", constructors[0].getParameterCount(), 0);
@@ -64,6 +78,14 @@ public final class FaceTest {
             s.append(s.charAt(s.length() - 1) == '(' ? "" : ",").append(p.getName());
         }
         return s.append(')').toString();
+    }
+
+    private static Set<String> thrown(Method m) {
+        Set<String> names = new TreeSet<>();
+        for (Class<?> e : m.getExceptionTypes()) {
+            names.add(e.getName());
+        }
+        return names;
     }
 
     private static void same(Check c, String what, Set<String> got, Set<String> want) {

@@ -169,7 +169,7 @@ final class Story {
     }
 
     /** What a written call answers; read's exceptions have numbers of their own, no other may come. */
-    private static long answer(LoanCases store, String call) {
+    static long answer(LoanCases store, String call) {
         int open = call.indexOf('(');
         String name = call.substring(0, open);
         String inner = call.substring(open + 1, call.length() - 1);
